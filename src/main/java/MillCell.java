@@ -337,10 +337,10 @@ public final class MillCell {
         }
 
         void copy(int i, Reals other, int j) {
-            if (other.has(j) && other.filled[j]) {
-                set(i, other.value[j]);
-            } else {
-                setVacant(i);
+            if (has(i)) {
+                boolean some = other.has(j) && other.filled[j];
+                value[i] = some ? other.value[j] : 0;
+                filled[i] = some;
             }
         }
 
@@ -1165,7 +1165,7 @@ public final class MillCell {
 
         private void takeWordFactor(int depth) {
             int atom = scanner.wordIn(ATOM_WORDS);
-            int function = scanner.wordIn(FUNCTION_WORDS);
+            int function = atom >= 0 ? NONE : scanner.wordIn(FUNCTION_WORDS);
             expect(atom >= 0 || function >= 0);
             scanner.advance();
             if (atom >= 0) {
@@ -1984,14 +1984,19 @@ public final class MillCell {
             return stack.has(place) ? (int) stack.value[place] : 0;
         }
 
+        // The text's depth keeps the stack far below its size.
         private void push(double x) {
-            stack.set(top, x);
-            top++;
+            if (top < DEEPEST) {
+                stack.set(top, x);
+                top++;
+            }
         }
 
         private void pushVacant() {
-            stack.setVacant(top);
-            top++;
+            if (top < DEEPEST) {
+                stack.setVacant(top);
+                top++;
+            }
         }
 
         private static int operands(int op) {
