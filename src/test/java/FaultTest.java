@@ -46,6 +46,9 @@ public final class FaultTest {
         due(2, 1, "");
         due(2, 3, "\n\n");
         due(2, 2, "\nPRINT 1");
+        due(2, 1, "PRINT 1\nO 1");
+        due(2, 1, "X 1\nO 1");
+        due(2, 1, "#1=1\nO 1");
         due(2, 1, "1");
         due(2, 1, "O");
         due(2, 1, "O\n1");
@@ -81,6 +84,7 @@ public final class FaultTest {
         due(2, 2, "O 1\nCALL 100");
         due(2, 2, "O 1\nCALL 1.0");
         due(2, 2, "O 1\nCALL #1");
+        fine("O 1\nCALL 0");
         fine("O 1\nCALL 99 A 1 B -2 Z #100 X[3]");
         due(2, 2, "O 1\nCALL 9 O 1");
         due(2, 2, "O 1\nCALL 9 A 1 A 2");
@@ -151,6 +155,14 @@ public final class FaultTest {
         fine("O 1\n#1=" + "--------------------" + "1");
         due(3, 2, "O 1\n#1=" + "---------------------" + "1");
         due(3, 2, "O 1\nX" + "---------------------" + "1 $");
+        String twenty = "--------------------";
+        fine("O 1\nFIT " + twenty + "1," + twenty + "1");
+        due(3, 2, "O 1\nFIT 1,-" + twenty + "1");
+        fine("O 1\nCALL 1 A " + twenty + "1 B " + twenty + "1");
+        fine("O 1\nPRINT ABS[" + twenty.substring(1) + "1]+MIN[" + twenty.substring(1) + "1," + twenty.substring(1) + "1]");
+        due(3, 2, "O 1\nPRINT ABS[" + twenty + "1]");
+        due(3, 2, "O 1\nPRINT MIN[1," + twenty + "1]");
+        due(3, 2, "O 1\nPRINT MID[1,1," + twenty + "1]");
         // Of one the least: what can't stand there is no depth.
         due(2, 2, "O 1\nPRINT " + "--------------------" + "]");
         due(1, 2, "O 1\nPRINT " + "--------------------" + "$");
@@ -182,6 +194,7 @@ public final class FaultTest {
 
     private static void lengths() {
         fine(tokensOf(1000));
+        due(4, 0, tokensOf(1000) + "\nRETURN");
         due(4, 0, tokensOf(1002));
         due(4, 0, tokensOf(4000));
         due(2, 2, tokensOf(3000) + "]");
@@ -193,6 +206,15 @@ public final class FaultTest {
         fine(programsOf(12));
         due(4, 0, programsOf(13));
         due(2, 40, programsOf(13) + "END");
+        due(2, 5001, "\n".repeat(5000));
+        fine("\n".repeat(4997) + "O 1");
+        MillCell most = new MillCell();
+        Cells.tape(most, linesOf(249) + "\nPRINT 5");
+        Cells.due("read()", most.read(), 0);
+        Cells.due("count(1)", most.count(1), 250);
+        Cells.due("run(1, 999)", most.run(1, 999), 0);
+        Cells.due("told(2)", most.told(2), 249);
+        Cells.dueReal("real(4, 0)", most.real(4, 0), 5);
         MillCell cell = new MillCell();
         Cells.tape(cell, tokensOf(1000));
         Cells.due("read()", cell.read(), 0);

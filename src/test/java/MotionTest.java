@@ -48,7 +48,9 @@ public final class MotionTest {
         done(8, "S 1000000.1");
         done(8, "S [1/0]");
         done(7, "X VACANT");
-        done(7, "P VACANT");
+        for (char c : "GMXYZFSP".toCharArray()) {
+            done(7, c + " VACANT");
+        }
         done(7, "G VACANT");
         done(6, "X VACANT Y DIV[1,0]");
         done(7, "G 3 X VACANT");

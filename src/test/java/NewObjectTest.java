@@ -9,6 +9,12 @@ public final class NewObjectTest {
         for (int what = 0; what <= 13; what++) {
             Cells.due("count(" + what + ")", cell.count(what), 0);
         }
+        int[] none = {-1, 8, Integer.MAX_VALUE, Integer.MIN_VALUE};
+        for (int what : none) {
+            Cells.due("told(" + what + ")", cell.told(what), -1);
+            Cells.due("count(" + what + ")", cell.count(what), what == 8 ? 0 : -1);
+        }
+        Cells.due("count(14)", cell.count(14), -1);
         for (int where = -1; where <= 8; where++) {
             Cells.due("real(" + where + ", 0)", cell.real(where, 0), Cells.VACANT);
             Cells.due("real(" + where + ", 100)", cell.real(where, 100), Cells.VACANT);

@@ -12,6 +12,7 @@ public final class PlanTest {
     public static void main(String[] args) {
         straight();
         turns();
+        slants();
         dwellsPartNothing();
         endedOtherwise();
         keptOnes();
@@ -47,6 +48,33 @@ public final class PlanTest {
             sum = sum + time(v[i], j[i], j[i + 1], l[i]);
         }
         Cells.dueReal("WHOLE TIME", cell.real(6, 0), sum);
+    }
+
+    /** In all three directions, some of them with a c above 1, as doubles go. */
+    private static void slants() {
+        int above = 0;
+        for (int n = 1; n <= 60; n++) {
+            double[] d = {n * 0.1, n * 0.07 + 0.3, 1.1 - n * 0.03};
+            MillCell cell = Cells.of("O 1", "G 91", "G 1 F 5", "X #100 Y #101 Z #102", "X #100 Y #101 Z #102", "X #100 Y #101 Z -#102");
+            for (int i = 0; i < 3; i++) {
+                cell.param(100 + i, Cells.bits(d[i]));
+            }
+            cell.run(1, 9);
+            double[][] s = new double[3][4];
+            for (int i = 0; i < 3; i++) {
+                for (int k = 0; k < 4; k++) {
+                    s[i][k] = Double.longBitsToDouble(cell.segment(i, k == 0 ? 0 : k + 1));
+                }
+            }
+            for (int i = 1; i < 3; i++) {
+                double[] p = s[i - 1];
+                double[] q = s[i];
+                double c = (p[1] * q[1] + p[2] * q[2] + p[3] * q[3]) / (p[0] * q[0]);
+                above += c > 1 ? 1 : 0;
+                Cells.dueReal("J " + i + " of slant " + n, cell.segment(i, 5), 5 * Math.min(1, Math.max(0, (1 + c) / 2)));
+            }
+        }
+        Cells.due("some c above 1", above > 0, true);
     }
 
     private static void dwellsPartNothing() {

@@ -1,6 +1,6 @@
 /** Promise 4: the tape's text becomes the programs; all is as at first, but what was made and met. */
 public final class ReadTest {
-    private static final String[] BUSY = {"O 1", "#100=4", "FIT 5,9", "RACK 2,3,4", "LOAD 2,1,4", "TAKE 2,1", "LOAD 2,0,3",
+    private static final String[] BUSY = {"O 1", "#100=4", "FIT 5,8", "FIT 0,0", "RACK 2,3,3", "RACK 0,0,0", "LOAD 2,1,4", "TAKE 2,1", "LOAD 2,0,3",
         "G1 F 100 S 7 M 3 X 5", "M 8", "G 92 X 1 Y 2 Z 3", "G 55", "G 91", "TRY", "ALARM 1", "ON ANY", "END", "PRINT 8",
         "#5=6", "ALARM 9"};
 
@@ -24,6 +24,8 @@ public final class ReadTest {
         Cells.due("count(11)", cell.count(11), 15);
         Cells.due("count(12)", cell.count(12), 2);
         Cells.due("count(13)", cell.count(13), 2);
+        Cells.due("bank(0)", cell.bank(0), 0);
+        Cells.due("pocket(0, 0, 4)", cell.pocket(0, 0, 4), 0);
         return cell;
     }
 
@@ -45,6 +47,8 @@ public final class ReadTest {
         Cells.due("real(7, 5)", cell.real(7, 5), Cells.VACANT);
         Cells.due("segment(0, 0)", cell.segment(0, 0), Cells.VACANT);
         Cells.due("bank(5)", cell.bank(5), -1);
+        Cells.due("bank(0)", cell.bank(0), -1);
+        Cells.due("pocket(0, 0, 4)", cell.pocket(0, 0, 4), -1);
         Cells.due("cell(5, 0)", cell.cell(5, 0), 0);
         Cells.due("pocket(2, 0, 4)", cell.pocket(2, 0, 4), -1);
         Cells.due("pocket(-1, 0, 0)", cell.pocket(-1, 0, 0), -1);

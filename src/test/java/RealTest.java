@@ -44,7 +44,7 @@ public final class RealTest {
         // Of run()'s PROGRAM, though the alarm was met in what it called.
         Cells.dueReal("real(7, 1)", cell.real(7, 1), 11);
         Cells.dueReal("real(7, 26)", cell.real(7, 26), -0.0);
-        vacant(cell, 7, 0, 2, 27, -1, 100);
+        vacant(cell, 7, 0, 2, 27, 28, -1, 100);
         vacant(cell, 8, 0, 1, 100);
         vacant(cell, -1, 0, 1, 100);
         Cells.due("run(3, 9)", cell.run(3, 9), 0);

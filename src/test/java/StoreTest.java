@@ -44,7 +44,8 @@ public final class StoreTest {
         alarm(1, "PRINT PORT[0,5]");
         alarm(2, "PRINT PORT[9,5]");
         alarm(0, "PRINT LEN[4]");
-        Cells.prints(Cells.of("O 1", "FIT 4,2", "PUT 4,1,7", "PRINT PORT[4,1]", "FIT 4,3", "PRINT PORT[4,1]", "PRINT LEN[4]"), 7, 0, 3);
+        Cells.prints(Cells.of("O 1", "FIT 4,2", "PUT 4,1,7", "PRINT PORT[4,1]", "FIT 4,3", "PRINT PORT[4,1]", "PRINT LEN[4]", "PUT 4,0,8",
+            "PUT 4,2,9", "PRINT PORT[4,0]", "PRINT PORT[4,2]"), 7, 0, 3, 8, 9);
     }
 
     private static void racks() {
