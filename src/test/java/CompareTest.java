@@ -473,6 +473,20 @@ public final class CompareTest {
         }
     }
 
+    /** TOKENS and bytes in any order: hardly ever a program, but the fault must be the same one. */
+    private void soup() {
+        String[] words = ("IF ELSE WHILE TRY ON LAST GUARD END CALL RETURN ALARM PRINT FIT DROP # [ ] , = + - * / 1 2 99 100 1.5 O X G ANY"
+            + " NONE EQ LT ABS MIN MID VACANT FEED WHY ( ) . x A B").split(" ");
+        StringBuilder s = new StringBuilder(up(4) > 0 ? "O 1\n" : "");
+        for (int n = up(up(3) == 0 ? 300 : 12); n > 0 && s.length() < 4900; n--) {
+            s.append(up(60) == 0 ? Character.toString((char) up(256)) : any(words)).append(any(" ", " ", "", "\n"));
+        }
+        MillCell a = new MillCell();
+        ReferenceCell b = new ReferenceCell();
+        same(s.toString(), "feeds", fed(a, b, s.toString()), 0);
+        same(s.toString(), "read()", a.read(), b.read());
+    }
+
     private static String functionsText() {
         StringBuilder s = new StringBuilder("O 1\n");
         for (String f : "ABS FIX FUP RND SQRT SGN ULP NXT INT VAC LONG SING".split(" ")) {
@@ -529,6 +543,7 @@ public final class CompareTest {
         long seed = args.length > 1 ? Long.parseLong(args[1]) : 1;
         for (int n = 0; n < times; n++) {
             new CompareTest(seed * 1000003 + n).wholePrograms();
+            new CompareTest(seed * 1000003 + n).soup();
         }
         new CompareTest(seed).reals(times);
         System.out.println(times + " texts and " + times + " REALS compared");
