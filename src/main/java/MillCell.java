@@ -252,11 +252,15 @@ public final class MillCell {
     }
 
     public int pocket(int r, int p, int what) {
+        // The spindle too is none such without a program; with one it answers as an empty pocket does.
+        if (!hasProgram()) {
+            return NONE;
+        }
         boolean ofTool = what >= 0 && what <= 3;
         if (r == NONE) {
-            return ofTool ? toolAnswer(hasProgram() ? runner.store.held : null, what) : NONE;
+            return ofTool ? toolAnswer(runner.store.held, what) : NONE;
         }
-        Rack rack = hasProgram() ? runner.store.rackAt(r) : null;
+        Rack rack = runner.store.rackAt(r);
         if (rack == null) {
             return NONE;
         }

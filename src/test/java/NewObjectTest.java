@@ -24,9 +24,11 @@ public final class NewObjectTest {
             Cells.due("cell(" + b + ", 0)", cell.cell(b, 0), 0);
         }
         Cells.due("segment(0, 0)", cell.segment(0, 0), Cells.VACANT);
-        Cells.due("pocket(0, 0, 4)", cell.pocket(0, 0, 4), -1);
-        Cells.due("pocket(-1, 0, 0)", cell.pocket(-1, 0, 0), -1);
-        Cells.due("pocket(-1, 0, 1)", cell.pocket(-1, 0, 1), 0);
+        for (int r = -2; r <= 4; r++) {
+            for (int what = -1; what <= 6; what++) {
+                Cells.due("pocket(" + r + ", 0, " + what + ")", cell.pocket(r, 0, what), -1);
+            }
+        }
         Cells.due("param(100, 0)", cell.param(100, 0), false);
         Cells.due("run(1, 1)", Cells.thrown(cell, 1, 1), Cells.STATE);
         Cells.due("run(-1, -1)", Cells.thrown(cell, -1, -1), Cells.STATE);

@@ -36,11 +36,29 @@ public final class PocketTest {
         pocket(cell, 2, 1, 4, 2, 1, bits, 4, 3);
         Cells.due("run(4, 9)", cell.run(4, 9), 0);
         pocket(cell, 3, 0, -1, -1, -1, -1, 0, 0);
-        cell.read();
-        pocket(cell, 2, 1, -1, -1, -1, -1, -1, -1);
-        pocket(cell, -1, 0, -1, 0, 0, 0, -1, -1);
+        withoutProgram();
         usesWrap();
         Cells.end();
+    }
+
+    /** The spindle too is none such without a program; with one that has done nothing it is empty. */
+    private static void withoutProgram() {
+        MillCell cell = new MillCell();
+        pocket(cell, -1, 0, -1, -1, -1, -1, -1, -1, -1);
+        pocket(cell, 0, 0, -1, -1, -1, -1, -1, -1, -1);
+        Cells.tape(cell, "O 1\nRACK 0,0,1\nLOAD 0,0,1\nTAKE 0,0");
+        pocket(cell, -1, 0, -1, -1, -1, -1, -1, -1, -1);
+        Cells.due("read()", cell.read(), 0);
+        pocket(cell, -1, 0, -1, 0, 0, 0, -1, -1, -1);
+        Cells.due("run(1, 9)", cell.run(1, 9), 0);
+        pocket(cell, -1, 0, 1, 1, 0, 0, -1, -1, -1);
+        pocket(cell, 0, 0, -1, 0, 0, 0, 1, 0, -1);
+        Cells.due("read() of nothing", cell.read(), 2 + 16);
+        pocket(cell, -1, 0, -1, -1, -1, -1, -1, -1, -1);
+        pocket(cell, 0, 0, -1, -1, -1, -1, -1, -1, -1);
+        Cells.tape(cell, "O 1\nPRINT 1");
+        Cells.due("read()", cell.read(), 0);
+        pocket(cell, -1, 0, -1, 0, 0, 0, -1, -1, -1);
     }
 
     private static void usesWrap() {

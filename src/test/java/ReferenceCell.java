@@ -1208,7 +1208,7 @@ final class ReferenceCell {
     }
 
     int pocket(int r, int p, int w) {
-        if (r < -1 || r > 3 || r >= 0 && racks[r] == null || w < 0 || w > 5 || r == -1 && w > 3) {
+        if (programs == null || r < -1 || r > 3 || r >= 0 && racks[r] == null || w < 0 || w > 5 || r == -1 && w > 3) {
             return -1;
         }
         if (w >= 4) {
