@@ -13,7 +13,8 @@ public final class CellTest {
         for (int b = 0; b < 8; b++) {
             s.append("PUT ").append(b).append(",1,#100\nPRINT PORT[").append(b).append(",1]\n");
         }
-        MillCell cell = Cells.of(s.toString().split("\n"));
+        String[] lines = s.toString().split("\n");
+        MillCell cell = Cells.of(lines);
         cell.run(1, 99);
         for (int b = 0; b < 8; b++) {
             for (int i = 0; i < 3; i++) {
@@ -21,6 +22,8 @@ public final class CellTest {
             }
         }
         for (double x : VALUES) {
+            cell = Cells.of(lines);
+            cell.run(1, 99);
             cell.param(100, Double.doubleToRawLongBits(x));
             Cells.due("run(2, 99)", cell.run(2, 99), 0);
             // To a FLOAT the nearest; VACANT is 0 there, as to an INT.

@@ -1,3 +1,5 @@
+import java.util.Arrays;
+
 /** What the tests share: a text onto the tape, calls with the answer that is due, and the verdict. */
 final class Cells {
     static final long VACANT = 0x7ff8000000000000L;
@@ -84,6 +86,43 @@ final class Cells {
         for (int i = 0; i < want.length; i++) {
             dueReal("real(4, " + i + ")", cell.real(4, i), want[i]);
         }
+    }
+
+    private static MillCell printing(String e, double... params) {
+        MillCell cell = of("O 1", "", "PRINT " + e);
+        for (int i = 0; i < params.length; i++) {
+            cell.param(100 + i, Double.doubleToRawLongBits(params[i]));
+        }
+        return cell;
+    }
+
+    /** What E is, with #100 .. as told. */
+    static void value(String e, double want, double... params) {
+        MillCell cell = printing(e, params);
+        due("run of " + e, cell.run(1, 9), 0);
+        dueReal(e + " of " + Arrays.toString(params), cell.real(4, 0), want);
+    }
+
+    /** E, with #100 .. as told, meets this alarm. */
+    static void refused(String e, int alarm, double... params) {
+        MillCell cell = printing(e, params);
+        due("run of " + e, cell.run(1, 9), 1);
+        due("alarm of " + e, cell.told(0), alarm);
+        due("line of " + e, cell.told(1), 3);
+    }
+
+    /** O 1 of these lines, parted by ; is run and meets this alarm; 0: it ends without one. */
+    static MillCell done(int alarm, String text) {
+        MillCell cell = of(("O 1;" + text).split("; ?", -1));
+        due("run of " + text, cell.run(1, 10000), alarm == 0 ? 0 : 1);
+        due("alarm of " + text, cell.told(0), alarm);
+        return cell;
+    }
+
+    static void position(MillCell cell, double x, double y, double z) {
+        dueReal("X", cell.real(1, 0), x);
+        dueReal("Y", cell.real(1, 1), y);
+        dueReal("Z", cell.real(1, 2), z);
     }
 
     static void end() {

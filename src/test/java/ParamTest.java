@@ -23,11 +23,12 @@ public final class ParamTest {
         // Kept between runs.
         cell.run(2, 10);
         Cells.dueReal("real(0, 100)", cell.real(0, 100), -2.5);
-        bitsStay(cell);
+        bitsStay();
         Cells.end();
     }
 
-    private static void bitsStay(MillCell cell) {
+    private static void bitsStay() {
+        MillCell cell = Cells.of("O 1");
         long[] plain = {0, Long.MIN_VALUE, 1, Long.MIN_VALUE + 1, 0x000fffffffffffffL, 0x0010000000000000L,
             0x7fefffffffffffffL, 0xffefffffffffffffL, 0x7ff0000000000000L, 0xfff0000000000000L, 0x3ff0000000000000L,
             0x3ff0000000000001L, 0x3fefffffffffffffL, 0x4340000000000001L, 0x0000000000000fffL, 0x123456789abcdef0L};
@@ -36,11 +37,13 @@ public final class ParamTest {
             Cells.due("real(0, 120)", cell.real(0, 120), x);
         }
         for (int e = 0; e < 2047; e++) {
+            cell = e % 100 == 0 ? Cells.of("O 1") : cell;
             long x = (long) e << 52 | 0x000a5a5a5a5a5a5aL >>> e % 52;
             cell.param(121, x);
             Cells.due("real(0, 121)", cell.real(0, 121), x);
         }
         long[] vacant = {0x7ff8000000000000L, 0x7ff0000000000001L, 0xfff8000000000000L, -1L, 0x7fffffffffffffffL};
+        cell = Cells.of("O 1");
         for (long x : vacant) {
             Cells.due("param(120, " + x + ")", cell.param(120, x), true);
             Cells.due("real(0, 120)", cell.real(0, 120), Cells.VACANT);
