@@ -2,8 +2,10 @@
 public final class FaceEdgesTest {
     private static final int LEAST = Integer.MIN_VALUE;
     private static final int MOST = Integer.MAX_VALUE;
-    private static final String[] BUSY = {"O 1", "#100=1.5", "#149=-0", "#1=4", "#26=VACANT", "FIT 4,3", "PUT 4,2,-9", "FIT 7,1", "PUT 7,0,VACANT", "FIT 0,0", "RACK 2,3,3",
-        "RACK 0,0,0", "LOAD 2,1,4", "LOAD 2,0,3", "TAKE 2,1", "G 1 F 100 S 7 M 3 X 5", "G 81 Z -2", "G 4 P 25", "M 8", "G 92 X 1 Y 2 Z 3", "G 55", "G 91", "TRY", "ALARM 1",
+    private static final String[] BUSY = {"O 1", "#100=1.5", "#149=-0", "#1=4", "#26=VACANT", "FIT 4,3", "PUT 4,2,-9", "FIT 7,1",
+        "PUT 7,0,VACANT", "FIT 0,0", "RACK 2,3,3",
+        "RACK 0,0,0", "LOAD 2,1,4", "LOAD 2,0,3", "TAKE 2,1", "G 1 F 100 S 7 M 3 X 5", "G 81 Z -2", "G 4 P 25", "M 8", "G 92 X 1 Y 2 Z 3",
+        "G 55", "G 91", "TRY", "ALARM 1",
         "ON ANY", "END", "PRINT 8", "PRINT VACANT", "CALL 99", "O 99", "ALARM 9"};
 
     private static MillCell busy() {
@@ -90,7 +92,8 @@ public final class FaceEdgesTest {
     private static void ownMemory() {
         MillCell one = busy();
         long[] before = answers(one);
-        MillCell other = Cells.of("O 1", "#100=7", "FIT 4,9", "PUT 4,2,1", "RACK 2,0,1", "LOAD 2,0,0", "TAKE 2,0", "X 8", "G 92 X 9", "G 91 M 8 F 3", "PRINT 1", "ALARM 2");
+        MillCell other = Cells.of("O 1", "#100=7", "FIT 4,9", "PUT 4,2,1", "RACK 2,0,1", "LOAD 2,0,0", "TAKE 2,0", "X 8", "G 92 X 9",
+            "G 91 M 8 F 3", "PRINT 1", "ALARM 2");
         other.run(1, 99);
         other.read();
         same("another's run", before, answers(one));
@@ -113,7 +116,8 @@ public final class FaceEdgesTest {
             StringBuilder s = new StringBuilder(" ".repeat(20));
             s.setCharAt(place, '\n');
             String text = s.toString();
-            Cells.due("feed", cell.feed(Cells.word(text, 0), Cells.word(text, 4), Cells.word(text, 8), Cells.word(text, 12), Cells.word(text, 16)), 20);
+            Cells.due("feed", cell.feed(Cells.word(text, 0), Cells.word(text, 4), Cells.word(text, 8), Cells.word(text, 12),
+                Cells.word(text, 16)), 20);
             Cells.due("back", cell.back(19 - place), place + 1);
             Cells.due("read()", cell.read(), 2 + 32);
         }
@@ -184,7 +188,8 @@ public final class FaceEdgesTest {
 
     /** Or a fault of the text, there is no program (and no BANK, RACK, TOOL) then. */
     private static void faultsLeaveNothing() {
-        String[] texts = {"", "$", "O 1\nPRINT", "O 1\n" + "-".repeat(21), "O 1\nPRINT " + "-".repeat(21) + "1", "O 1" + "\nF 1".repeat(250)};
+        String[] texts = {"", "$", "O 1\nPRINT", "O 1\n" + "-".repeat(21), "O 1\nPRINT " + "-".repeat(21) + "1", "O 1"
+            + "\nF 1".repeat(250)};
         int[] faults = {18, 17, 34, 34, 35, 4};
         for (int t = 0; t < texts.length; t++) {
             MillCell cell = busy();
@@ -367,7 +372,8 @@ public final class FaceEdgesTest {
             }
         }
         // An ALARM that wasn't RAISED, or was taken, has no such REAL.
-        MillCell other = Cells.of("O 1", "TRY", "ALARM 5", "ON ANY", "END", "O 2", "ALARM 5", "O 3", "PRINT #0", "O 4", "TRY", "ALARM 5", "LAST", "PRINT #0", "END");
+        MillCell other = Cells.of("O 1", "TRY", "ALARM 5", "ON ANY", "END", "O 2", "ALARM 5", "O 3", "PRINT #0", "O 4", "TRY", "ALARM 5",
+            "LAST", "PRINT #0", "END");
         long[] want = {Cells.VACANT, Cells.bits(5), Cells.VACANT, Cells.VACANT};
         for (int o = 1; o <= 4; o++) {
             other.run(o, 9);

@@ -88,7 +88,8 @@ public final class FlowTest {
         is("O 1;TRY;CALL 2;ON RAISED;PRINT WHAT;END;O 2;TRY;RETURN;LAST;ALARM 8;END", 8);
         is("O 1;WHILE 1;TRY;ALARM 1;LAST;PRINT 1;RETURN;END;END", 1);
         // What LAST takes within itself leaves what it holds up.
-        MillCell cell = Cells.of("O 1", "TRY", "ALARM 7", "LAST", "TRY", "ALARM 8", "ON ANY", "PRINT WHAT", "LAST", "CALL 2", "END", "PRINT WHAT",
+        MillCell cell = Cells.of("O 1", "TRY", "ALARM 7", "LAST", "TRY", "ALARM 8", "ON ANY", "PRINT WHAT", "LAST", "CALL 2", "END",
+            "PRINT WHAT",
             "END", "O 2", "TRY", "PRINT #0", "ON ANY", "RETURN", "END");
         Cells.prints(cell, 8, V);
         Cells.due("told(0)", cell.told(0), 10);
@@ -113,7 +114,8 @@ public final class FlowTest {
 
     private static void guards() {
         String change = "G 1 M 3 F 5 S 6;G 91 M 8;G 57;X 3;";
-        MillCell cell = Cells.of(("O 1;GUARD;" + change + "END;O 2;GUARD;" + change + "ALARM 1;END;O 3;GUARD;" + change + "RETURN;END;O 4;GUARD;"
+        MillCell cell = Cells.of(("O 1;GUARD;" + change + "END;O 2;GUARD;" + change + "ALARM 1;END;O 3;GUARD;" + change
+            + "RETURN;END;O 4;GUARD;"
             + change + "GUARD;G 0;G 90;F 9;END;PRINT POS[0];WHILE 1;END;END;O 5;F 7;G 55;GUARD;" + change + "CALL 2;END;O 6;TRY;CALL 5;"
             + "ON ANY;S 8;END;O 7;GUARD;TRY;" + change + "ALARM 1;LAST;F 77;END;END").split(";"));
         Cells.due("run(1, 99)", cell.run(1, 99), 0);

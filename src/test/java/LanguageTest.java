@@ -31,7 +31,8 @@ public final class LanguageTest {
         String[] none = {"->", "::", "\\bimport\\b", "\\bpackage\\b", "\\bfinally\\b", "\\bassert\\b", "\\bsynchronized\\b", "\\bvar\\b",
             "\\bDouble\\.", "\\bFloat\\.", "\\bNaN\\b", "Exact\\b", "\\bRuntimeException\\b", "\\bThrowable\\b", "\\bException\\b",
             "NullPointer", "IndexOutOfBounds", "ArithmeticException", "ClassCast", "NegativeArraySize", "getMessage",
-            "Math\\.(?!max\\(|min\\(|floorMod\\()", "hashCode", "toString", "System\\.(?!arraycopy)", "\" *\\+", "\\+ *\"", "\\bprotected\\b"};
+            "Math\\.(?!max\\(|min\\(|floorMod\\()", "hashCode", "toString", "System\\.(?!arraycopy)", "\" *\\+", "\\+ *\"",
+            "\\bprotected\\b"};
         for (String word : none) {
             Matcher m = Pattern.compile(word).matcher(code);
             Cells.due("source has " + word, m.find(), false);
@@ -44,7 +45,8 @@ public final class LanguageTest {
     }
 
     private static void face() {
-        Cells.due("public final", Modifier.isPublic(MillCell.class.getModifiers()) && Modifier.isFinal(MillCell.class.getModifiers()), true);
+        Cells.due("public final", Modifier.isPublic(MillCell.class.getModifiers()) && Modifier.isFinal(MillCell.class.getModifiers()),
+            true);
         Set<String> seen = new TreeSet<>();
         for (Method m : MillCell.class.getDeclaredMethods()) {
             if (Modifier.isPublic(m.getModifiers())) {

@@ -100,7 +100,8 @@ public final class MotionEdgesTest {
 
     /** G, rounded to an INT. */
     private static void gRounded() {
-        double[] plain = {-0.9999999999999999, -0.0, 0.9999999999999999, 1.9999999999999998, 54.99999999999999, 57.99999999999999, 91.99999999999999, 92.99999999999999};
+        double[] plain = {-0.9999999999999999, -0.0, 0.9999999999999999, 1.9999999999999998, 54.99999999999999, 57.99999999999999,
+            91.99999999999999, 92.99999999999999};
         for (double g : plain) {
             met(0, "G #100", g);
         }
@@ -156,7 +157,8 @@ public final class MotionEdgesTest {
 
     /** Ahead of all that is done. */
     private static void aheadOfAllDone() {
-        String[] refused = {"G 1 M 3 F 5 S -1", "G 1 M 3 F -5 S 1", "G 1 M 4 F 5 S 1", "G 2 M 3 F 5 S 1", "G 91 M 8 S -1", "G 55 F -1", "G 92 X 5 F -1", "G 4 P 5 S -1",
+        String[] refused = {"G 1 M 3 F 5 S -1", "G 1 M 3 F -5 S 1", "G 1 M 4 F 5 S 1", "G 2 M 3 F 5 S 1", "G 91 M 8 S -1", "G 55 F -1",
+            "G 92 X 5 F -1", "G 4 P 5 S -1",
             "G 54 X 5 M 2"};
         for (String line : refused) {
             MillCell cell = of(line);
@@ -503,7 +505,8 @@ public final class MotionEdgesTest {
             Cells.due("told(6)", cell.told(6), Math.min(n + 2, 400));
             Cells.due("USES", cell.count(10), 1);
             Cells.position(cell, n, 0, 0);
-            Cells.due("segment(399, 4)", cell.segment(399, 4), n == 398 ? Cells.bits(5) : n == 399 ? Cells.bits(-5) : n == 397 ? Cells.VACANT : Cells.bits(0));
+            Cells.due("segment(399, 4)", cell.segment(399, 4),
+                n == 398 ? Cells.bits(5) : n == 399 ? Cells.bits(-5) : n == 397 ? Cells.VACANT : Cells.bits(0));
         }
         // Each run begins anew.
         MillCell cell = of("G 91;#1=400;WHILE #1;#1=#1-1;X 1;X -1;END;O 2;X 2");

@@ -167,7 +167,8 @@ public final class MotionTest {
         Cells.due("WEAR without a TOOL", Cells.done(0, "M 3 F 5;G 1 X 10").pocket(-1, 0, 3), 0);
         Cells.due("USES", cell.count(10), 0);
         // SEGMENTS that are not kept do all else.
-        MillCell many = Cells.of("O 1", "RACK 0,0,1", "LOAD 0,0,1", "TAKE 0,0", "G 91 M 3 F 9", "G 1", "#1=0", "WHILE #1 LT 450", "#1=#1+1", "X 1", "END");
+        MillCell many = Cells.of("O 1", "RACK 0,0,1", "LOAD 0,0,1", "TAKE 0,0", "G 91 M 3 F 9", "G 1", "#1=0", "WHILE #1 LT 450",
+            "#1=#1+1", "X 1", "END");
         Cells.due("run(1, 9999)", many.run(1, 9999), 0);
         float sum = 0f;
         for (int n = 0; n < 450; n++) {

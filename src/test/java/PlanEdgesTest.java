@@ -120,7 +120,8 @@ public final class PlanEdgesTest {
         Cells.dueReal("back", cell.segment(1, 5), 0);
         // Slanting back: c is about -1, as doubles go below or above it.
         for (int n = 1; n <= 40; n++) {
-            cell = run("G 91;G 1 F 20 X #100 Y #101 Z #102;X -#100 Y -#101 Z -#102;X #100 Y #101 Z #102;X #100 Y #101 Z #102", n * 0.13, 7 - n * 0.31, n * 0.017);
+            cell = run("G 91;G 1 F 20 X #100 Y #101 Z #102;X -#100 Y -#101 Z -#102;X #100 Y #101 Z #102;X #100 Y #101 Z #102", n * 0.13,
+                7 - n * 0.31, n * 0.017);
             Cells.due("J 1 is not below 0", of(cell.segment(1, 5)) >= 0, true);
             Cells.due("J 3 is not above V", of(cell.segment(3, 5)) <= 20, true);
         }
@@ -260,7 +261,8 @@ public final class PlanEdgesTest {
 
     /** A run's PLAN is of its own SEGMENTS, though an older run had more. */
     private static void nothingOfOlderRuns() {
-        MillCell cell = Cells.of("O 1", "G 1 F 50", "X 100", "G 4 P 9", "X 200", "Y 50", "X 300", "Y 0", "X 0", "O 2", "F 20", "X 10", "X 20", "O 3", "G 4 P 7", "O 4", "Y 0", "O 5",
+        MillCell cell = Cells.of("O 1", "G 1 F 50", "X 100", "G 4 P 9", "X 200", "Y 50", "X 300", "Y 0", "X 0", "O 2", "F 20", "X 10",
+            "X 20", "O 3", "G 4 P 7", "O 4", "Y 0", "O 5",
             "X 0", "G 4 P 1", "X 30");
         cell.run(1, 99);
         planned("the first", cell);

@@ -1,6 +1,7 @@
 /** Promise 4: the tape's text becomes the programs; all is as at first, but what was made and met. */
 public final class ReadTest {
-    private static final String[] BUSY = {"O 1", "#100=4", "FIT 5,8", "FIT 0,0", "RACK 2,3,3", "RACK 0,0,0", "LOAD 2,1,4", "TAKE 2,1", "LOAD 2,0,3",
+    private static final String[] BUSY = {"O 1", "#100=4", "FIT 5,8", "FIT 0,0", "RACK 2,3,3", "RACK 0,0,0", "LOAD 2,1,4", "TAKE 2,1",
+        "LOAD 2,0,3",
         "G1 F 100 S 7 M 3 X 5", "M 8", "G 92 X 1 Y 2 Z 3", "G 55", "G 91", "TRY", "ALARM 1", "ON ANY", "END", "PRINT 8",
         "#5=6", "ALARM 9"};
 

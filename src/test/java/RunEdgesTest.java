@@ -56,8 +56,10 @@ public final class RunEdgesTest {
 
     /** A STEP: each LINE that begins. */
     private static void stepOfEachLine() {
-        String[] lines = {"#1=1", "IF 0;END", "WHILE 0;END", "TRY;END", "GUARD;END", "CALL 2", "RETURN", "ALARM 1", "PRINT 1", "FIT 1,1", "DROP 1", "FIT 1,1;PUT 1,0,0",
-            "FIT 1,1;MOVE 1,0,1,0,1", "RACK 0,0,1", "RACK 0,0,1;LOAD 0,0,0", "RACK 0,0,1;LOAD 0,0,0;TAKE 0,0", "F 1", "X 1", "G 4 P 1", "PRINT #0", "FIT 9,9"};
+        String[] lines = {"#1=1", "IF 0;END", "WHILE 0;END", "TRY;END", "GUARD;END", "CALL 2", "RETURN", "ALARM 1", "PRINT 1", "FIT 1,1",
+            "DROP 1", "FIT 1,1;PUT 1,0,0",
+            "FIT 1,1;MOVE 1,0,1,0,1", "RACK 0,0,1", "RACK 0,0,1;LOAD 0,0,0", "RACK 0,0,1;LOAD 0,0,0;TAKE 0,0", "F 1", "X 1", "G 4 P 1",
+            "PRINT #0", "FIT 9,9"};
         for (String line : lines) {
             MillCell cell = of("O 1;" + line + ";O 2");
             int steps = 0;
@@ -172,7 +174,8 @@ public final class RunEdgesTest {
         prints("O 1;TRY;ALARM 1;ON ZERO;PRINT 1;ON LACK;PRINT 2;ON RAISED;PRINT 3;END", 3);
         prints("O 1;TRY;CALL 2;PRINT 9;ON RAISED;PRINT #1;END;O 2;#1=5;CALL 3;PRINT 9;O 3;#1=6;ALARM 1", V);
         String[] kinds = {"NONE", "PLACE", "SIZE", "KIND", "STORE", "ZERO", "VACANT", "LIMIT", "LACK", "RAISED"};
-        String[] lines = {"PRINT FEED", "PRINT #0", "FIT 0,-1", "G 81", "LOAD 0,0,0", "PRINT DIV[1,0]", "X VACANT", "F -1", "G 3", "ALARM 0"};
+        String[] lines = {"PRINT FEED", "PRINT #0", "FIT 0,-1", "G 81", "LOAD 0,0,0", "PRINT DIV[1,0]", "X VACANT", "F -1", "G 3",
+            "ALARM 0"};
         for (int a = 0; a < 10; a++) {
             String made = a == 3 ? "RACK 0,0,1;LOAD 0,0,0;TAKE 0,0;" : "RACK 0,1,1;";
             for (int k = 0; k < 10; k++) {
@@ -191,10 +194,12 @@ public final class RunEdgesTest {
 
     /** Behind its END a TRY takes nothing any more, whichever way it was left. */
     private static void tryHasEnded() {
-        String[] left = {"TRY;ON ANY;PRINT 9;END", "TRY;ON ANY;PRINT 9;LAST;END", "TRY;LAST;END", "TRY;ALARM 1;ON RAISED;ON ANY;PRINT 9;END",
+        String[] left = {"TRY;ON ANY;PRINT 9;END", "TRY;ON ANY;PRINT 9;LAST;END", "TRY;LAST;END",
+            "TRY;ALARM 1;ON RAISED;ON ANY;PRINT 9;END",
             "TRY;ALARM 1;ON RAISED;ON ANY;PRINT 9;LAST;END", "TRY;END", "TRY;ON ANY;PRINT 9;ON ANY;PRINT 9;END"};
         for (String block : left) {
-            MillCell cell = of("O 1;" + block + ";ALARM 7;O 2;TRY;" + block + ";ALARM 8;ON RAISED;PRINT WHAT;END;CALL 3;O 3;ALARM 9;O 4;#1=0;WHILE #1 LT 400;"
+            MillCell cell = of("O 1;" + block + ";ALARM 7;O 2;TRY;" + block
+                + ";ALARM 8;ON RAISED;PRINT WHAT;END;CALL 3;O 3;ALARM 9;O 4;#1=0;WHILE #1 LT 400;"
                 + "#1=#1+1;" + block + ";END;ALARM 6;O 5;CALL 6;PRINT 5;O 6;" + block);
             run(cell, 1, 99, ALARM);
             Cells.dueReal("what went out", cell.real(5, 0), 7);
@@ -209,7 +214,8 @@ public final class RunEdgesTest {
             told(cell, 7, 1);
         }
         // So with one that a RETURN or an alarm has left.
-        MillCell cell = of("O 1;CALL 2;ALARM 3;O 2;TRY;RETURN;ON ANY;PRINT 9;END;O 3;TRY;CALL 4;ON ANY;END;ALARM 4;O 4;TRY;ALARM 1;ON ZERO;PRINT 9;END");
+        MillCell cell = of("O 1;CALL 2;ALARM 3;O 2;TRY;RETURN;ON ANY;PRINT 9;END;O 3;TRY;CALL 4;ON ANY;END;ALARM 4;O 4;TRY;"
+            + "ALARM 1;ON ZERO;PRINT 9;END");
         run(cell, 1, 99, ALARM);
         Cells.dueReal("what went out", cell.real(5, 0), 3);
         run(cell, 3, 99, ALARM);
@@ -251,7 +257,8 @@ public final class RunEdgesTest {
 
     /** An ALARM or RETURN in them counts instead. */
     private static void lastCounts() {
-        String[] tries = {"TRY;", "TRY;ALARM 1;", "TRY;RETURN;", "TRY;ALARM 1;ON ANY;", "TRY;ALARM 1;ON ANY;ALARM 2;", "TRY;ALARM 1;ON ANY;RETURN;"};
+        String[] tries = {"TRY;", "TRY;ALARM 1;", "TRY;RETURN;", "TRY;ALARM 1;ON ANY;", "TRY;ALARM 1;ON ANY;ALARM 2;",
+            "TRY;ALARM 1;ON ANY;RETURN;"};
         for (String t : tries) {
             MillCell cell = of("O 1;" + t + "LAST;ALARM 7;END;PRINT 9");
             run(cell, 1, 99, ALARM);
@@ -281,7 +288,8 @@ public final class RunEdgesTest {
         prints("O 1;CALL 2;PRINT 3;O 2;TRY;RETURN;" + last + nine, 1, 3);
         prints("O 1;TRY;" + last + nine, 1, 2);
         // Three of them, each held up by a LAST of its own.
-        cell = of("O 1;TRY;ALARM 1;LAST;TRY;TRY;ALARM 2;LAST;TRY;TRY;PRINT #0;LAST;PRINT 3;END;ON ANY;PRINT WHY;END;END;ON ANY;PRINT WHAT;END;END");
+        cell = of("O 1;TRY;ALARM 1;LAST;TRY;TRY;ALARM 2;LAST;TRY;TRY;PRINT #0;LAST;PRINT 3;END;ON ANY;PRINT WHY;END;END;ON ANY;"
+            + "PRINT WHAT;END;END");
         run(cell, 1, 99, ALARM);
         Cells.dueReal("what went out", cell.real(5, 0), 1);
         told(cell, 7, 3);
@@ -302,7 +310,8 @@ public final class RunEdgesTest {
 
     /** GUARD: whatever leaves its LINES: the MODES are as they were when it began. */
     private static void guardIsLeft() {
-        String[] ways = {"", "RETURN;", "ALARM 1;", "CALL 9;", "WHILE 1;RETURN;END;", "TRY;ALARM 1;LAST;F 8;END;", "TRY;RETURN;LAST;S 8;END;"};
+        String[] ways = {"", "RETURN;", "ALARM 1;", "CALL 9;", "WHILE 1;RETURN;END;", "TRY;ALARM 1;LAST;F 8;END;",
+            "TRY;RETURN;LAST;S 8;END;"};
         for (String way : ways) {
             MillCell cell = of("O 1;GUARD;" + CHANGE + "X 2;G 92 Y 3;#100=4;" + way + "END");
             int end = cell.run(1, 99);
@@ -314,14 +323,16 @@ public final class RunEdgesTest {
             Cells.dueReal("#100", cell.real(0, 100), 4);
         }
         // As they were when it began, not as at first; within one another; through CALLS.
-        MillCell cell = of("O 1;" + CHANGE + "GUARD;G 0;G 90;G 54;M 5;M 9;F 1 S 2;CALL 2;PRINT POS[0];END;O 2;GUARD;" + CHANGE + "RETURN;END");
+        MillCell cell = of("O 1;" + CHANGE + "GUARD;G 0;G 90;G 54;M 5;M 9;F 1 S 2;CALL 2;PRINT POS[0];END;O 2;GUARD;" + CHANGE
+            + "RETURN;END");
         run(cell, 1, 99, ENDED);
         modes(cell, 1, 0, 3, 1, 1, 5, 6);
         cell = of("O 1;F 1;GUARD;F 2;GUARD;F 3;END;CALL 2;END;O 2;S 4;G 4 P 1;TRY;GUARD;S 5;ALARM 1;END;ON ANY;END");
         run(cell, 1, 99, ENDED);
         modes(cell, 0, 1, 0, 0, 0, 1, 0);
         // TRY, ON, LAST alone restore none, though a GUARD was open in their place before.
-        String[] others = {"TRY;F 2;END", "TRY;ALARM 1;ON ANY;F 2;END", "TRY;LAST;F 2;END", "TRY;ALARM 1;ON ANY;LAST;F 2;END", "TRY;F 2;ON ANY;END", "TRY;F 2;LAST;END",
+        String[] others = {"TRY;F 2;END", "TRY;ALARM 1;ON ANY;F 2;END", "TRY;LAST;F 2;END", "TRY;ALARM 1;ON ANY;LAST;F 2;END",
+            "TRY;F 2;ON ANY;END", "TRY;F 2;LAST;END",
             "TRY;TRY;F 2;ALARM 1;LAST;END;ON ANY;END", "CALL 2;O 2;TRY;F 2;RETURN;LAST;END", "IF 1;F 2;END", "CALL 2;O 2;F 2"};
         for (String block : others) {
             cell = of("O 1;F 1;GUARD;GUARD;GUARD;F 9;END;END;END;" + block);
@@ -354,7 +365,8 @@ public final class RunEdgesTest {
 
     /** They are kept between runs, as positions, OFFSETS, BANKS, RACKS, the spindle's TOOL, common PARAMETERS are. */
     private static void keptBetweenRuns() {
-        MillCell cell = of("O 1;F 9;X 3 Y 4 Z 5;" + CHANGE + "G 92 X 1;FIT 4,2;PUT 4,1,6;RACK 1,0,2;LOAD 1,0,1;LOAD 1,1,5;TAKE 1,1;#100=8;O 2;O 3;ALARM 1;O 4;X 5000");
+        MillCell cell = of("O 1;F 9;X 3 Y 4 Z 5;" + CHANGE + "G 92 X 1;FIT 4,2;PUT 4,1,6;RACK 1,0,2;LOAD 1,0,1;LOAD 1,1,5;"
+            + "TAKE 1,1;#100=8;O 2;O 3;ALARM 1;O 4;X 5000");
         run(cell, 1, 99, ENDED);
         int[] others = {2, 3, 4, 2};
         for (int o : others) {
@@ -424,7 +436,8 @@ public final class RunEdgesTest {
         run(cell, 2, 99, ENDED);
         told(cell, 4, 1);
         // The FACTORS are worked out ahead of it, and a PROGRAM that there isn't is LACK there, too.
-        cell = of("O 1;#100=#100-1;IF #100;CALL 1;END;TRY;CALL 1 A DIV[1,0];ON ZERO;PRINT 1;END;RETURN;O 2;#100=#100-1;IF #100;CALL 2;RETURN;END;CALL 3");
+        cell = of("O 1;#100=#100-1;IF #100;CALL 1;END;TRY;CALL 1 A DIV[1,0];ON ZERO;PRINT 1;END;RETURN;O 2;#100=#100-1;IF #100;"
+            + "CALL 2;RETURN;END;CALL 3");
         cell.param(100, Cells.bits(16));
         run(cell, 1, 9999, ENDED);
         told(cell, 7, 16);
@@ -471,7 +484,8 @@ public final class RunEdgesTest {
         int[] kinds = {1, 2, 3, 6, 7, 8, 9, 10};
         String[] lines = {"PRINT FEED", "PRINT #0", "FIT 0,-1", "PRINT DIV[1,0]", "X VACANT", "F -1", "G 3", "ALARM 0"};
         for (int k = 0; k < lines.length; k++) {
-            MillCell cell = of(RAISING + "O 2;" + lines[k] + ";O 3;GUARD;F 7;TRY;" + lines[k] + ";ON ANY;PRINT 1;LAST;PRINT 2;END;END;O 4;PRINT 5");
+            MillCell cell = of(RAISING + "O 2;" + lines[k] + ";O 3;GUARD;F 7;TRY;" + lines[k]
+                + ";ON ANY;PRINT 1;LAST;PRINT 2;END;END;O 4;PRINT 5");
             for (int n : new int[] {2000, 999}) {
                 cell.param(100, Cells.bits(n));
                 run(cell, 1, 10000, ENDED);
@@ -537,7 +551,8 @@ public final class RunEdgesTest {
 
     /** FULL, behind all ALARMS. */
     private static void fullBehindAlarms() {
-        MillCell cell = of("O 1;FIT 0,99999;O 2;FIT 8,0;O 3;FIT 0,-1;O 4;RACK 4,0,0;O 5;RACK 0,6,0;O 6;RACK 0,0,-1;O 7;FIT 0,DIV[1,0];O 8;FIT 0,0");
+        MillCell cell = of("O 1;FIT 0,99999;O 2;FIT 8,0;O 3;FIT 0,-1;O 4;RACK 4,0,0;O 5;RACK 0,6,0;O 6;RACK 0,0,-1;O 7;"
+            + "FIT 0,DIV[1,0];O 8;FIT 0,0");
         run(cell, 1, 9, ENDED);
         int[] alarms = {2, 3, 2, 2, 3, 6};
         for (int o = 2; o <= 7; o++) {
@@ -546,7 +561,8 @@ public final class RunEdgesTest {
         }
         run(cell, 8, 9, FULL);
         Cells.due("bank(0)", cell.bank(0), 99999);
-        cell = of("O 1;#1=#100;WHILE #1;#1=#1-1;LOAD 0,0,1;END;O 2;RACK 0,1,1;O 3;LOAD 4,0,1;O 4;LOAD 0,0,6;O 5;LOAD 1,0,1;O 6;LOAD 0,1,1;O 7;LOAD 0,0,0;O 8;LOAD 0,0,2;O 9;TAKE 0,0;BACK 0,0");
+        cell = of("O 1;#1=#100;WHILE #1;#1=#1-1;LOAD 0,0,1;END;O 2;RACK 0,1,1;O 3;LOAD 4,0,1;O 4;LOAD 0,0,6;O 5;LOAD 1,0,1;O 6;"
+            + "LOAD 0,1,1;O 7;LOAD 0,0,0;O 8;LOAD 0,0,2;O 9;TAKE 0,0;BACK 0,0");
         run(cell, 2, 9, ENDED);
         cell.param(100, Cells.bits(2500));
         run(cell, 1, 10000, ENDED);
@@ -566,7 +582,8 @@ public final class RunEdgesTest {
 
     /** Or the 5,001st TOOL, since the beginning. */
     private static void toolsAtMost() {
-        MillCell cell = of("O 1;RACK 0,0,1;#1=#100;WHILE #1;#1=#1-1;LOAD 0,0,1;END;O 2;TRY;GUARD;F 7;LOAD 0,0,5;END;ON ANY;PRINT 1;LAST;PRINT 2;END");
+        MillCell cell = of("O 1;RACK 0,0,1;#1=#100;WHILE #1;#1=#1-1;LOAD 0,0,1;END;O 2;TRY;GUARD;F 7;LOAD 0,0,5;END;ON ANY;"
+            + "PRINT 1;LAST;PRINT 2;END");
         for (int n : new int[] {2500, 2499}) {
             cell.param(100, Cells.bits(n));
             run(cell, 1, 10000, ENDED);

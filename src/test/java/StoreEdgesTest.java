@@ -149,7 +149,8 @@ public final class StoreEdgesTest {
 
     /** Bytes, chars, shorts the lowest bits of a rounded to an INT. */
     private static void lowestBits() {
-        double[] values = {0, -0.0, 0.9, -0.9, 127, 127.9, 128, -128, -128.9, -129, 255, 256, 257, 32767, 32768, -32768, -32769, 65535, 65535.9, 65536,
+        double[] values = {0, -0.0, 0.9, -0.9, 127, 127.9, 128, -128, -128.9, -129, 255, 256, 257, 32767, 32768, -32768, -32769, 65535,
+            65535.9, 65536,
             65537, -1, -1.9, -65536, -65537, 2147483647, 2147483648.0, 1e300, -2147483648.0, -1e300, INF, -INF, V};
         for (double x : values) {
             int whole = (int) x;
@@ -167,8 +168,10 @@ public final class StoreEdgesTest {
     /** Ints, longs: a rounded to such. */
     private static void intsAndLongs() {
         double two63 = 9223372036854775808.0;
-        double[] values = {0, -0.0, 0.9, -0.9, 2147483646.9, 2147483647, 2147483647.5, 2147483648.0, -2147483648.0, -2147483648.5, -2147483649.0,
-            4294967296.0, Math.nextDown(two63), two63, Math.nextUp(two63), -two63, Math.nextUp(-two63), Math.nextDown(-two63), 1e300, -1e300, INF, -INF, V};
+        double[] values = {0, -0.0, 0.9, -0.9, 2147483646.9, 2147483647, 2147483647.5, 2147483648.0, -2147483648.0, -2147483648.5,
+            -2147483649.0,
+            4294967296.0, Math.nextDown(two63), two63, Math.nextUp(two63), -two63, Math.nextUp(-two63), Math.nextDown(-two63), 1e300,
+            -1e300, INF, -INF, V};
         for (double x : values) {
             Cells.due("an int of " + x, put(4, x), (int) x);
             Cells.due("a long of " + x, put(5, x), (long) x);
@@ -186,8 +189,10 @@ public final class StoreEdgesTest {
         double half = max + Math.ulp(Float.MAX_VALUE) / 2;
         double least = Float.MIN_VALUE;
         double normal = Float.MIN_NORMAL;
-        double[] values = {0, 1, 0.1, max, Math.nextDown(half), half, 1e300, least, least / 2, Math.nextUp(least / 2), least * 1.5, least * 2.5, normal,
-            Math.nextDown(normal), normal / 2, normal / 2 + least, normal * 0.75, normal / 4, normal - least, 2 * normal, 1e-38, 6e-39, 5e-39, 16777217,
+        double[] values = {0, 1, 0.1, max, Math.nextDown(half), half, 1e300, least, least / 2, Math.nextUp(least / 2), least * 1.5,
+            least * 2.5, normal,
+            Math.nextDown(normal), normal / 2, normal / 2 + least, normal * 0.75, normal / 4, normal - least, 2 * normal, 1e-38, 6e-39,
+            5e-39, 16777217,
             16777219, Double.MIN_VALUE, INF};
         for (double x : values) {
             Cells.due("a FLOAT of " + x, put(6, x), Float.floatToRawIntBits((float) x));
@@ -199,7 +204,8 @@ public final class StoreEdgesTest {
 
     /** Doubles: a itself, VACANT and zeros' signs too. */
     private static void doubles() {
-        double[] values = {0, -0.0, 0.1, Double.MIN_VALUE, -Double.MIN_VALUE, Double.MIN_NORMAL, Double.MAX_VALUE, -Double.MAX_VALUE, INF, -INF, V};
+        double[] values = {0, -0.0, 0.1, Double.MIN_VALUE, -Double.MIN_VALUE, Double.MIN_NORMAL, Double.MAX_VALUE, -Double.MAX_VALUE, INF,
+            -INF, V};
         for (double x : values) {
             Cells.due("a DOUBLE of " + x, put(7, x), Double.doubleToLongBits(x));
         }
@@ -212,7 +218,8 @@ public final class StoreEdgesTest {
             MillCell cell = Cells.of("O 1", "#1=0", "WHILE #1 LT 8", "FIT #1,1", "PUT #1,0,#100", "PRINT PORT[#1,0]", "#1=#1+1", "END");
             cell.param(100, Double.doubleToRawLongBits(x));
             int whole = (int) x;
-            Cells.prints(cell, x != 0 ? 1 : 0, (byte) whole, (char) whole, (short) whole, whole, (double) (long) x, x != x ? 0 : (float) x, x);
+            Cells.prints(cell, x != 0 ? 1 : 0, (byte) whole, (char) whole, (short) whole, whole, (double) (long) x,
+                x != x ? 0 : (float) x, x);
         }
         // No LONG's, INT's, truth's 0 is -0.
         for (int b = 0; b <= 5; b++) {
@@ -223,8 +230,10 @@ public final class StoreEdgesTest {
 
     /** MOVE: STORE ahead of PLACE of its cells: i, j, n below 0 or beyond. */
     private static void moves() {
-        double[][] there = {{0, 0, 0}, {0, 0, 5}, {5, 5, 0}, {5, 0, 0}, {0, 5, 0}, {1, 0, 4}, {0, 1, 4}, {4, 4, 1}, {0, 4, 1}, {-BELOW_1, 0, 5}, {0, 0, 5.9}, {V, V, V}};
-        double[][] beyond = {{-1, 0, 0}, {0, -1, 0}, {0, 0, -1}, {0, 0, 6}, {1, 0, 5}, {0, 1, 5}, {6, 0, 0}, {0, 6, 0}, {5, 0, 1}, {0, 5, 1}, {2, 3, 3},
+        double[][] there = {{0, 0, 0}, {0, 0, 5}, {5, 5, 0}, {5, 0, 0}, {0, 5, 0}, {1, 0, 4}, {0, 1, 4}, {4, 4, 1}, {0, 4, 1}, {-BELOW_1,
+            0, 5}, {0, 0, 5.9}, {V, V, V}};
+        double[][] beyond = {{-1, 0, 0}, {0, -1, 0}, {0, 0, -1}, {0, 0, 6}, {1, 0, 5}, {0, 1, 5}, {6, 0, 0}, {0, 6, 0}, {5, 0, 1}, {0, 5,
+            1}, {2, 3, 3},
             {INF, 0, 1}, {0, INF, 1}, {0, 0, INF}, {INF, INF, INF}, {-INF, 0, 0}, {1, 1, INF}, {INF, 0, 0}};
         for (double[] m : there) {
             met(0, "FIT 4,5;MOVE 4,#100,4,#101,#102", m);
@@ -252,7 +261,8 @@ public final class StoreEdgesTest {
         int[][] moves = {{0, 1, 5}, {1, 0, 5}, {0, 0, 6}, {0, 3, 3}, {3, 0, 3}, {0, 5, 1}, {5, 0, 1}, {2, 1, 3}, {1, 2, 3}, {0, 2, 4}};
         for (int b = 0; b < 8; b++) {
             for (int[] m : moves) {
-                MillCell cell = met(0, "FIT #100,6;#1=0;WHILE #1 LT 6;PUT #100,#1,#1;#1=#1+1;END;MOVE #100,#101,#100,#102,#103", b, m[0], m[1], m[2]);
+                MillCell cell = met(0, "FIT #100,6;#1=0;WHILE #1 LT 6;PUT #100,#1,#1;#1=#1+1;END;MOVE #100,#101,#100,#102,#103", b, m[0],
+                    m[1], m[2]);
                 for (int k = 0; k < 6; k++) {
                     int from = k >= m[1] && k < m[1] + m[2] ? k - m[1] + m[0] : k;
                     long want = b == 0 ? Math.min(from, 1) : b == 6 ? Float.floatToIntBits(from) : b == 7 ? Double.doubleToLongBits(from) : from;
@@ -383,12 +393,14 @@ public final class StoreEdgesTest {
 
     /** USES (16 bits with a sign, wrapping) and WEAR, 0 at first. */
     private static void uses() {
-        MillCell cell = Cells.of("O 1", "RACK 0,4,1", "LOAD 0,0,4", "TAKE 0,0", "M 3", "O 2", "#1=#100", "WHILE #1", "#1=#1-1", "G 84 Z 0", "END");
+        MillCell cell = Cells.of("O 1", "RACK 0,4,1", "LOAD 0,0,4", "TAKE 0,0", "M 3", "O 2", "#1=#100", "WHILE #1", "#1=#1-1",
+            "G 84 Z 0", "END");
         cell.run(1, 9);
         Cells.due("USES at first", cell.count(10), 0);
         Cells.due("WEAR at first", cell.pocket(-1, 0, 3), 0);
         int sum = 0;
-        int[] more = {1, 3000, 3000, 3000, 3000, 3000, 3000, 3000, 3000, 3000, 3000, 2765, 1, 1, 1, 3000, 3000, 3000, 3000, 3000, 3000, 3000, 3000,
+        int[] more = {1, 3000, 3000, 3000, 3000, 3000, 3000, 3000, 3000, 3000, 3000, 2765, 1, 1, 1, 3000, 3000, 3000, 3000, 3000, 3000,
+            3000, 3000,
             3000, 3000, 2766, 1, 1, 1};
         for (int n : more) {
             cell.param(100, Cells.bits(n));
@@ -417,7 +429,8 @@ public final class StoreEdgesTest {
     private static void heldSorts() {
         for (int sort = 0; sort < TOOLS; sort++) {
             for (int k = 0; k < TOOLS; k++) {
-                Cells.prints(met(0, "PRINT HELD[#101];RACK 0,0,1;LOAD 0,0,#100;TAKE 0,0;PRINT HELD[#101];BACK 0,0;PRINT HELD[#101]", sort, k),
+                Cells.prints(met(0, "PRINT HELD[#101];RACK 0,0,1;LOAD 0,0,#100;TAKE 0,0;PRINT HELD[#101];BACK 0,0;PRINT HELD[#101]", sort,
+                    k),
                     0, isA(sort, k) ? 1 : 0, 0);
             }
         }
@@ -470,8 +483,10 @@ public final class StoreEdgesTest {
     /** What is met changes nothing but what is told to have been done before it. */
     private static void changesNothing() {
         String made = "FIT 4,2;PUT 4,0,5;RACK 0,1,2;LOAD 0,0,1;LOAD 0,1,2;TAKE 0,0;";
-        String[] refused = {"FIT 4,-1", "FIT 8,1", "DROP 8", "PUT 4,2,9", "PUT 4,-1,9", "PUT 5,0,9", "MOVE 4,0,4,1,2", "MOVE 4,0,4,0,-1", "RACK 0,1,-1",
-            "RACK 0,6,1", "LOAD 0,2,1", "LOAD 0,1,3", "LOAD 1,0,1", "TAKE 0,0", "TAKE 0,2", "TAKE 1,0", "BACK 0,2", "BACK 1,0", "#0=1", "PRINT #0", "PRINT FEED/DIV[1,0]"};
+        String[] refused = {"FIT 4,-1", "FIT 8,1", "DROP 8", "PUT 4,2,9", "PUT 4,-1,9", "PUT 5,0,9", "MOVE 4,0,4,1,2", "MOVE 4,0,4,0,-1",
+            "RACK 0,1,-1",
+            "RACK 0,6,1", "LOAD 0,2,1", "LOAD 0,1,3", "LOAD 1,0,1", "TAKE 0,0", "TAKE 0,2", "TAKE 1,0", "BACK 0,2", "BACK 1,0", "#0=1",
+            "PRINT #0", "PRINT FEED/DIV[1,0]"};
         for (String line : refused) {
             MillCell cell = Cells.of(("O 1;" + made + line).split(";"));
             Cells.due("run of " + line, cell.run(1, 99), 1);

@@ -83,11 +83,13 @@ public final class StoreTest {
         alarm(0, "TAKE 0,0", "BACK 1,1");
         alarm(0, "TAKE 0,1", "BACK 2,0");
         alarm(1, "TAKE 0,1", "BACK 2,0", "BACK 2,0");
-        Cells.prints(Cells.of("O 1", "RACK 0,0,1", "LOAD 0,0,4", "TAKE 0,0", "PRINT HELD[0]", "PRINT HELD[1]", "PRINT HELD[2]", "PRINT HELD[3]",
+        Cells.prints(Cells.of("O 1", "RACK 0,0,1", "LOAD 0,0,4", "TAKE 0,0", "PRINT HELD[0]", "PRINT HELD[1]", "PRINT HELD[2]",
+            "PRINT HELD[3]",
             "PRINT HELD[4]", "PRINT HELD[5]", "LOAD 0,0,2", "TAKE 0,0", "PRINT HELD[1]", "PRINT HELD[2]", "PRINT HELD[3]"),
             1, 0, 0, 1, 1, 0, 1, 1, 0);
         // What was in the pocket is gone, and numbers go on.
-        MillCell cell = Cells.of("O 1", "RACK 0,0,2", "LOAD 0,0,4", "LOAD 0,0,1", "LOAD 0,1,5", "TAKE 0,0", "BACK 0,1", "O 2", "RACK 0,5,1");
+        MillCell cell = Cells.of("O 1", "RACK 0,0,2", "LOAD 0,0,4", "LOAD 0,0,1", "LOAD 0,1,5", "TAKE 0,0", "BACK 0,1", "O 2",
+            "RACK 0,5,1");
         cell.run(1, 9);
         Cells.due("pocket(0, 0, 0)", cell.pocket(0, 0, 0), -1);
         Cells.due("pocket(0, 1, 0)", cell.pocket(0, 1, 0), 1);
@@ -133,7 +135,8 @@ public final class StoreTest {
     }
 
     private static void changesNothing() {
-        MillCell cell = Cells.of("O 1", "FIT 4,2", "RACK 1,1,1", "LOAD 1,0,1", "RACK 0,0,2", "LOAD 0,0,3", "TAKE 0,0", "O 2", "FIT 4,-1", "O 3",
+        MillCell cell = Cells.of("O 1", "FIT 4,2", "RACK 1,1,1", "LOAD 1,0,1", "RACK 0,0,2", "LOAD 0,0,3", "TAKE 0,0", "O 2", "FIT 4,-1",
+            "O 3",
             "LOAD 1,0,3", "O 4", "BACK 1,0", "O 5", "TAKE 0,1", "O 6", "RACK 1,1,-5", "O 7", "MOVE 4,0,4,1,2", "O 8", "PUT 4,2,9");
         cell.run(1, 99);
         for (int o = 2; o <= 8; o++) {

@@ -249,7 +249,8 @@ public final class TextEdgesTest {
 
     /** A LINE is one of these: what would be a second one can't stand there. */
     private static void oneLineEach() {
-        String[] all = {"RETURN", "PRINT 1", "#1=1", "CALL 1", "F 1", "DROP 1", "ALARM 1", "FIT 1,1", "O 2", "IF 1", "TRY", "GUARD", "WHILE 1"};
+        String[] all = {"RETURN", "PRINT 1", "#1=1", "CALL 1", "F 1", "DROP 1", "ALARM 1", "FIT 1,1", "O 2", "IF 1", "TRY", "GUARD",
+            "WHILE 1"};
         for (String first : all) {
             for (String second : all) {
                 boolean letters = second.equals("F 1") && (first.equals("CALL 1"));
@@ -266,7 +267,8 @@ public final class TextEdgesTest {
 
     /** As many Es as a LINE has, with , between. */
     private static void esOfLines() {
-        String[] words = {"IF", "WHILE", "ALARM", "PRINT", "FIT", "DROP", "PUT", "MOVE", "RACK", "LOAD", "TAKE", "BACK", "RETURN", "TRY", "GUARD"};
+        String[] words = {"IF", "WHILE", "ALARM", "PRINT", "FIT", "DROP", "PUT", "MOVE", "RACK", "LOAD", "TAKE", "BACK", "RETURN", "TRY",
+            "GUARD"};
         int[] many = {1, 1, 1, 1, 2, 1, 3, 5, 3, 3, 2, 2, 0, 0, 0};
         for (int w = 0; w < words.length; w++) {
             StringBuilder es = new StringBuilder();
@@ -418,7 +420,8 @@ public final class TextEdgesTest {
 
     /** A FUNCTION: a WORD, [ , as many Es as told with , between, ]. */
     private static void functionsEs() {
-        String[] words = {"ABS FIX FUP RND SQRT SGN ULP NXT INT VAC LEN POS LONG SING HELD", "MIN MAX CPS MOD DIV REM AND OR XOR SHL SHR PORT",
+        String[] words = {"ABS FIX FUP RND SQRT SGN ULP NXT INT VAC LEN POS LONG SING HELD",
+            "MIN MAX CPS MOD DIV REM AND OR XOR SHL SHR PORT",
             "MID"};
         for (int many = 1; many <= 3; many++) {
             for (String word : words[many - 1].split(" ")) {
@@ -470,7 +473,8 @@ public final class TextEdgesTest {
         due(1, 2, "O 1\nPRINT $\nPRINT ]");
         due(1, 1, "$");
         // In place of what is wanted, or behind what is whole: none is none.
-        for (String start : new String[] {"", "O", "O 1\nPRINT", "O 1\nPRINT 1", "O 1\n#1", "O 1\nCALL", "O 1\nIF 1\nELSE", "O 1\nTRY\nON", "O 1\nPRINT ABS"}) {
+        for (String start : new String[] {"", "O", "O 1\nPRINT", "O 1\nPRINT 1", "O 1\n#1", "O 1\nCALL", "O 1\nIF 1\nELSE",
+            "O 1\nTRY\nON", "O 1\nPRINT ABS"}) {
             int line = start.length() - start.replace("\n", "").length() + 1;
             due(1, line, start + " $");
             due(1, line, start + " (");

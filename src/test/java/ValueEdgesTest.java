@@ -9,7 +9,8 @@ public final class ValueEdgesTest {
     private static final double TWO_63 = 9223372036854775808.0;
     private static final double[] ALL = {0, -0.0, LEAST, -LEAST, NORMAL, -NORMAL, Math.nextDown(NORMAL), 0.25, -0.25, 0.49999999999999994,
         -0.49999999999999994, 0.5, -0.5, 0.5000000000000001, -0.5000000000000001, 0.9999999999999999, -0.9999999999999999, 1, -1,
-        1.0000000000000002, -1.0000000000000002, 1.5, -1.5, 2, -2, 2.5, -2.5, 3, -3, 3.5, -3.5, 4, 1e9, 2147483646.5, 2147483647, 2147483648.0,
+        1.0000000000000002, -1.0000000000000002, 1.5, -1.5, 2, -2, 2.5, -2.5, 3, -3, 3.5, -3.5, 4, 1e9, 2147483646.5, 2147483647,
+        2147483648.0,
         -2147483648.0, -2147483649.0, TWO_52 - 0.5, -TWO_52 + 0.5, TWO_52 - 1, TWO_52, -TWO_52, TWO_52 + 1, 2 * TWO_52, TWO_63, -TWO_63,
         Math.nextDown(TWO_63), Math.nextUp(TWO_63), 1e300, -1e300, MAX, -MAX, Math.nextDown(MAX), INF, -INF, V};
 
@@ -90,8 +91,10 @@ public final class ValueEdgesTest {
         double least = Float.MIN_VALUE;
         double normal = Float.MIN_NORMAL;
         double[] edges = {floatMax, Math.nextUp(floatMax), Math.nextDown(beyond), beyond, Math.nextUp(beyond), 1e39, least, least / 2,
-            Math.nextUp(least / 2), Math.nextDown(least / 2), least * 1.5, Math.nextDown(least * 1.5), normal, Math.nextDown(normal), normal / 2,
-            normal - least, normal - least / 2, normal * 0.75, normal / 4, 16777215, 16777216, 16777217, 16777218, 16777219, 0.1, 1e-38, 6e-39, 1e-45};
+            Math.nextUp(least / 2), Math.nextDown(least / 2), least * 1.5, Math.nextDown(least * 1.5), normal, Math.nextDown(normal),
+            normal / 2,
+            normal - least, normal - least / 2, normal * 0.75, normal / 4, 16777215, 16777216, 16777217, 16777218, 16777219, 0.1, 1e-38,
+            6e-39, 1e-45};
         for (double x : edges) {
             Cells.value("SING[#100]", (float) x, x);
             Cells.value("SING[#100]", -(float) x, -x);
@@ -108,7 +111,8 @@ public final class ValueEdgesTest {
     /** # a, a rounded to an INT: 1 .. 26 of the CALL at hand, 100 .. 149 common ones; others: ALARM PLACE. */
     private static void parameterNumbers() {
         double[] there = {1, 1.9999999999999998, 2, 25, 26, 26.999999999999996, 100, 100.5, 149, 149.99999999999997};
-        double[] absent = {0, -0.0, 0.9999999999999999, -1, -26, 27, 28, 50, 99, 99.99999999999999, 150, 151, 1000, V, INF, -INF, 4294967297.0, 4294967396.0};
+        double[] absent = {0, -0.0, 0.9999999999999999, -1, -26, 27, 28, 50, 99, 99.99999999999999, 150, 151, 1000, V, INF, -INF,
+            4294967297.0, 4294967396.0};
         MillCell cell = Cells.of("O 1", "##101=7", "PRINT ##101", "O 2", "#5=1/#[##101]", "O 3", "##101=8");
         for (double x : there) {
             cell.param(101, Cells.bits(x));
@@ -151,7 +155,8 @@ public final class ValueEdgesTest {
             Cells.due("real(0, " + k + ")", cell.real(0, k), Cells.VACANT);
         }
         // run() begins with VACANT ones, whatever the run ahead has left, and a RETURN leads back to one's own.
-        MillCell own = Cells.of("O 1", "PRINT #1", "#1=5", "CALL 2 B 3", "PRINT #1", "PRINT #2", "O 2", "PRINT #1", "PRINT #2", "#1=6", "#2=7");
+        MillCell own = Cells.of("O 1", "PRINT #1", "#1=5", "CALL 2 B 3", "PRINT #1", "PRINT #2", "O 2", "PRINT #1", "PRINT #2", "#1=6",
+            "#2=7");
         Cells.prints(own, V, V, 3, 5, V);
         Cells.prints(own, V, V, 3, 5, V);
     }
@@ -171,7 +176,8 @@ public final class ValueEdgesTest {
     private static void asDoublesDo() {
         double[] some = {0, -0.0, 1, -1, LEAST, -LEAST, NORMAL, MAX, -MAX, INF, -INF, V, 0.1, 3, 1e-200, 1e200, TWO_52};
         for (double a : some) {
-            MillCell cell = Cells.of("O 1", "PRINT #100+#101", "PRINT #100-#101", "PRINT #100*#101", "PRINT #100/#101", "PRINT -#100", "PRINT 0-#100");
+            MillCell cell = Cells.of("O 1", "PRINT #100+#101", "PRINT #100-#101", "PRINT #100*#101", "PRINT #100/#101", "PRINT -#100",
+                "PRINT 0-#100");
             for (double b : some) {
                 cell.param(100, Double.doubleToRawLongBits(a));
                 cell.param(101, Double.doubleToRawLongBits(b));
@@ -287,7 +293,8 @@ public final class ValueEdgesTest {
 
     /** MOD (the exact rest of a by b, with a's sign; VACANT, if a is infinite or b 0). */
     private static void rests() {
-        double[] some = {0, -0.0, LEAST, -LEAST, NORMAL, 0.1, 0.3, 0.5, 0.75, -0.75, 1, -1, 3, 5, -5, 5.5, 1e15, TWO_52, 1e300, -1e300, MAX, -MAX, INF, -INF, V};
+        double[] some = {0, -0.0, LEAST, -LEAST, NORMAL, 0.1, 0.3, 0.5, 0.75, -0.75, 1, -1, 3, 5, -5, 5.5, 1e15, TWO_52, 1e300, -1e300,
+            MAX, -MAX, INF, -INF, V};
         for (double a : some) {
             MillCell cell = Cells.of("O 1", "PRINT MOD[#100,#101]");
             for (double b : some) {
@@ -376,8 +383,10 @@ public final class ValueEdgesTest {
 
     /** WHY: the number of the ALARM taken latest by an ON in this run (0), WHAT: what RAISED it (VACANT). */
     private static void whyAndWhat() {
-        MillCell cell = Cells.of("O 1", "PRINT WHY", "PRINT WHAT", "TRY", "ALARM 5", "ON ANY", "PRINT WHY", "PRINT WHAT", "END", "PRINT WHY",
-            "PRINT WHAT", "CALL 2", "PRINT WHY", "PRINT WHAT", "O 2", "PRINT WHAT", "TRY", "PRINT #0", "ON PLACE", "END", "O 3", "PRINT WHY",
+        MillCell cell = Cells.of("O 1", "PRINT WHY", "PRINT WHAT", "TRY", "ALARM 5", "ON ANY", "PRINT WHY", "PRINT WHAT", "END",
+            "PRINT WHY",
+            "PRINT WHAT", "CALL 2", "PRINT WHY", "PRINT WHAT", "O 2", "PRINT WHAT", "TRY", "PRINT #0", "ON PLACE", "END", "O 3",
+            "PRINT WHY",
             "PRINT WHAT", "TRY", "TRY", "ALARM 3", "LAST", "PRINT WHY", "END", "ON ZERO", "ON RAISED", "PRINT WHAT", "END");
         Cells.prints(cell, 0, V, 10, 5, 10, 5, 5, 2, V);
         // A new run begins with none, and one that isn't taken yet is none.
